@@ -334,7 +334,7 @@ public final class RefusePlanner {
         for (int i = first + 1; i < stops; i++) {
             int drive = region.between(from, bins.get(route[i]).place);
             // The numbers are compared because the swaps in the route unsort its rest.
-            if (drive < shortest || drive == shortest && route[i] < route[nearest]) {
+            if (drive < shortest || (drive == shortest && route[i] < route[nearest])) {
                 nearest = i;
                 shortest = drive;
             }
@@ -572,8 +572,7 @@ public final class RefusePlanner {
 
         /** Answers the litres that are taken from the bin. */
         int visit(Bin bin) {
-            minutes += region.between(at, bin.place);
-            at = bin.place;
+            driveTo(bin.place);
             if (bin.dirty) {
                 minutes += NOTING_MINUTES;
                 return 0;
@@ -590,10 +589,13 @@ public final class RefusePlanner {
         void end() {
             if (load > 0) {
                 unloadOnTheWayTo(DEPOT);
-            } else {
-                minutes += region.between(at, DEPOT);
-                at = DEPOT;
             }
+            driveTo(DEPOT);
+        }
+
+        private void driveTo(int next) {
+            minutes += region.between(at, next);
+            at = next;
         }
 
         private void unloadOnTheWayTo(int next) {

@@ -121,6 +121,7 @@ public final class BinsTest {
         dueFacts(x, 1, 3, 2, 40, 20, 0, 1, 2, 1);
         dueFacts(x, 0, 1, 0, 0, 10, 0, 0, 0, 0);
         check.refused(x, "bin(1, 8)", INDEX, () -> x.bin(1, 8));
+        check.refused(x, "bin(1, 9)", INDEX, () -> x.bin(1, 9));
         check.refused(x, "bin(1, -1)", INDEX, () -> x.bin(1, -1));
         check.refused(x, "bin(2, 0)", INDEX, () -> x.bin(2, 0));
         check.refused(x, "bin(-1, 0)", INDEX, () -> x.bin(-1, 0));

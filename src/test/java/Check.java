@@ -2,6 +2,7 @@ import java.util.concurrent.Callable;
 
 /** Counts and prints the answers that are not due; shared by the project's tests. */
 final class Check {
+    private static final int MOST_PRINTED = 50;
     private int wrong = 0;
 
     void due(String call, Object got, Object want) {
@@ -23,7 +24,9 @@ final class Check {
 
     void tell(String fault) {
         wrong++;
-        System.out.println(fault);
+        if (wrong <= MOST_PRINTED) {
+            System.out.println(fault);
+        }
     }
 
     /** The exception as an answer; one that the library threw, and not the class's own throw, shows. */

@@ -95,6 +95,7 @@ public final class PlacesAndDaysTest {
         check.due("digest() of the tips", x.digest(),
                 Check.checksum(0, 2, 30, 6, 5, 0, 0, 0, 0, 0, 0, 0, 0, 0, 0, 0, 0, 0, 0, 0, 0));
         check.refused(x, "setTip(2, 0, true)", INDEX, () -> x.setTip(2, 0, true));
+        check.refused(x, "setTip(10, 0, false)", INDEX, () -> x.setTip(10, 0, false));
         check.refused(x, "setTip(-1, 0, true)", INDEX, () -> x.setTip(-1, 0, true));
         check.refused(x, "setTip(0, 3, false)", INDEX, () -> x.setTip(0, 3, false));
         check.refused(x, "setTip(0, -1, true)", INDEX, () -> x.setTip(0, -1, true));
@@ -114,6 +115,7 @@ public final class PlacesAndDaysTest {
         check.due("it stays", x.setHoliday(3, true), true);
         check.refused(x, "setHoliday(-1, true)", INDEX, () -> x.setHoliday(-1, true));
         check.refused(x, "setHoliday(400, false)", INDEX, () -> x.setHoliday(400, false));
+        check.refused(x, "setHoliday(MAX, true)", INDEX, () -> x.setHoliday(Integer.MAX_VALUE, true));
         check.refused(x, "setHoliday(MIN, true)", INDEX, () -> x.setHoliday(Integer.MIN_VALUE, true));
     }
 
@@ -126,6 +128,7 @@ public final class PlacesAndDaysTest {
         for (int i = 0; i < 6; i++) {
             check.due("pass(60)", x.pass(60), 0);
         }
+        check.refused(x, "pass(60) on day 360", STATE, () -> x.pass(60));
         check.refused(x, "pass(40) on day 360", STATE, () -> x.pass(40));
         check.due("pass(39) on day 360", x.pass(39), 0);
         check.due("today()", x.today(), 399);

@@ -15,6 +15,7 @@ public final class PlansAndToursTest {
         promise18Refusals();
         promise18Dirty();
         promise18EmptyBins();
+        promise18OneLitre();
         promise18TipHere();
         promise18PlanIsMadeFirst();
         promise19Fetch();
@@ -134,6 +135,11 @@ public final class PlansAndToursTest {
         duePlan(x, 0, 2, 0, 3, 1);
         duePlan(x, 1, 4);
         duePlan(x, 2);
+        check.due("planned(1, 0)", x.planned(1, 0), 4);
+        check.due("planned(0, 0), straight after", x.planned(0, 0), 2);
+        check.due("planned(0, 3)", x.planned(0, 3), 1);
+        check.refused(x, "planned(0, 4)", INDEX, () -> x.planned(0, 4));
+        check.refused(x, "planned(0, MAX)", INDEX, () -> x.planned(0, Integer.MAX_VALUE));
         check.refused(x, "planned(0, -1)", INDEX, () -> x.planned(0, -1));
         check.refused(x, "planned(3, 0)", INDEX, () -> x.planned(3, 0));
         check.refused(x, "planned(-1, 0)", INDEX, () -> x.planned(-1, 0));
@@ -235,6 +241,21 @@ public final class PlansAndToursTest {
         dueTotals(x, 2, 100, 1, 145, 2);
     }
 
+    private static void promise18OneLitre() {
+        RefusePlanner x = withPlaces(1);
+        x.addBin(1, 0, 20, 0);
+        x.addBin(1, 0, 100, 50);
+        x.pass(14);
+        x.setGrowth(0, 1);
+        x.pass(1);
+        // One litre is a load: with 99 litres of room left, 100 have none.
+        check.due("collect(0, 100)", x.collect(0, 100), 30 + 5 + 40 + 30 + 5 + 10 + 30);
+        dueTotals(x, 0, 101, 2, 150, 1);
+        x.pass(1);
+        check.due("fetch(0, 50), one litre home", x.fetch(0, 50), 30 + 5 + 10 + 30);
+        dueTotals(x, 0, 102, 3, 225, 2);
+    }
+
     private static void promise18TipHere() {
         RefusePlanner x = withPlaces(1);
         x.setTip(1, 0, true);
@@ -323,6 +344,8 @@ public final class PlansAndToursTest {
         dueTotals(x, 1, 0, 0, 0, 0);
         dueTotals(x, 2, 36, 2, 150, 2);
         check.refused(x, "total(0, 4)", INDEX, () -> x.total(0, 4));
+        check.refused(x, "total(0, 5)", INDEX, () -> x.total(0, 5));
+        check.refused(x, "total(2, MAX)", INDEX, () -> x.total(2, Integer.MAX_VALUE));
         check.refused(x, "total(0, -1)", INDEX, () -> x.total(0, -1));
         check.refused(x, "total(3, 0)", INDEX, () -> x.total(3, 0));
         check.refused(x, "total(-1, 5)", INDEX, () -> x.total(-1, 5));
