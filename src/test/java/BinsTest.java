@@ -19,14 +19,6 @@ public final class BinsTest {
         check.end();
     }
 
-    private static RefusePlanner withPlaces(int places) {
-        RefusePlanner x = new RefusePlanner();
-        for (int i = 0; i < places; i++) {
-            x.addPlace();
-        }
-        return x;
-    }
-
     private static void dueFacts(RefusePlanner x, int bin, int... facts) {
         for (int what = 0; what < facts.length; what++) {
             check.due("bin(" + bin + ", " + what + ")", x.bin(bin, what), facts[what]);
@@ -34,7 +26,7 @@ public final class BinsTest {
     }
 
     private static void promise9AddBin() {
-        RefusePlanner x = withPlaces(2);
+        RefusePlanner x = Check.withPlaces(2);
         check.due("addBin(1, 0, 10, 0)", x.addBin(1, 0, 10, 0), 0);
         check.due("addBin(2, 2, 1000, 200)", x.addBin(2, 2, 1000, 200), 1);
         x.pass(3);
@@ -45,7 +37,7 @@ public final class BinsTest {
     }
 
     private static void promise9Refusals() {
-        RefusePlanner x = withPlaces(1);
+        RefusePlanner x = Check.withPlaces(1);
         check.refused(x, "addBin(0, 0, 10, 0)", INDEX, () -> x.addBin(0, 0, 10, 0));
         check.refused(x, "addBin(2, 0, 10, 0)", INDEX, () -> x.addBin(2, 0, 10, 0));
         check.refused(x, "addBin(-1, 0, 10, 0)", INDEX, () -> x.addBin(-1, 0, 10, 0));
@@ -67,7 +59,7 @@ public final class BinsTest {
     }
 
     private static void promise10SetGrowth() {
-        RefusePlanner x = withPlaces(1);
+        RefusePlanner x = Check.withPlaces(1);
         x.addBin(1, 0, 1000, 7);
         x.addBin(1, 0, 1000, 9);
         check.due("setGrowth(0, 200)", x.setGrowth(0, 200), 7);
@@ -84,7 +76,7 @@ public final class BinsTest {
     }
 
     private static void promise11Soil() {
-        RefusePlanner x = withPlaces(1);
+        RefusePlanner x = Check.withPlaces(1);
         x.addBin(1, 0, 100, 0);
         x.addBin(1, 0, 100, 0);
         check.due("soil(1)", x.soil(1), true);
@@ -99,7 +91,7 @@ public final class BinsTest {
     }
 
     private static void promise12BinCount() {
-        RefusePlanner x = withPlaces(1);
+        RefusePlanner x = Check.withPlaces(1);
         check.due("binCount()", x.binCount(), 0);
         x.addBin(1, 0, 10, 0);
         check.due("binCount()", x.binCount(), 1);
@@ -108,7 +100,7 @@ public final class BinsTest {
     }
 
     private static void promise13Bin() {
-        RefusePlanner x = withPlaces(3);
+        RefusePlanner x = Check.withPlaces(3);
         x.addBin(1, 0, 20, 0);
         x.addBin(3, 2, 40, 30);
         x.pass(2);
@@ -128,7 +120,7 @@ public final class BinsTest {
     }
 
     private static void promise13Rate() {
-        RefusePlanner x = withPlaces(1);
+        RefusePlanner x = Check.withPlaces(1);
         x.addBin(1, 0, 100, 7);
         x.fetch(0, 50);
         dueFacts(x, 0, 1, 0, 0, 50, 0);
@@ -150,7 +142,7 @@ public final class BinsTest {
     }
 
     private static void promise14Expected() {
-        RefusePlanner x = withPlaces(1);
+        RefusePlanner x = Check.withPlaces(1);
         x.pass(5);
         x.addBin(1, 0, 15, 200);
         check.due("expected(0, 5)", x.expected(0, 5), 0);
@@ -171,7 +163,7 @@ public final class BinsTest {
     }
 
     private static void promise15FullOn() {
-        RefusePlanner x = withPlaces(1);
+        RefusePlanner x = Check.withPlaces(1);
         x.addBin(1, 0, 100, 0);
         x.addBin(1, 0, 11, 0);
         check.due("fullOn(0)", x.fullOn(0), 20);
@@ -185,7 +177,7 @@ public final class BinsTest {
     }
 
     private static void promise15LastDay() {
-        RefusePlanner x = withPlaces(1);
+        RefusePlanner x = Check.withPlaces(1);
         x.addBin(1, 0, 60, 0);
         x.addBin(1, 0, 61, 0);
         for (int i = 0; i < 6; i++) {

@@ -5,6 +5,15 @@ final class Check {
     private static final int MOST_PRINTED = 50;
     private int wrong = 0;
 
+    /** A new planner with so many places beside the depot. */
+    static RefusePlanner withPlaces(int places) {
+        RefusePlanner x = new RefusePlanner();
+        for (int i = 0; i < places; i++) {
+            x.addPlace();
+        }
+        return x;
+    }
+
     void due(String call, Object got, Object want) {
         if (!got.equals(want)) {
             tell(call + " answered " + got + ", due is " + want);

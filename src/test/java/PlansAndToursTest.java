@@ -28,14 +28,6 @@ public final class PlansAndToursTest {
         check.end();
     }
 
-    private static RefusePlanner withPlaces(int places) {
-        RefusePlanner x = new RefusePlanner();
-        for (int i = 0; i < places; i++) {
-            x.addPlace();
-        }
-        return x;
-    }
-
     private static void duePlan(RefusePlanner x, int kind, int... bins) {
         check.due("planSize(" + kind + ")", x.planSize(kind), bins.length);
         for (int i = 0; i < bins.length; i++) {
@@ -55,7 +47,7 @@ public final class PlansAndToursTest {
      * nearest to them, place 3 the one that lies best on the way home.
      */
     private static RefusePlanner twoBinsAndTips() {
-        RefusePlanner x = withPlaces(3);
+        RefusePlanner x = Check.withPlaces(3);
         x.setMinutes(0, 1, 20);
         x.setMinutes(1, 2, 3);
         x.setMinutes(2, 0, 100);
@@ -70,7 +62,7 @@ public final class PlansAndToursTest {
     }
 
     private static void promise16PlanSize() {
-        RefusePlanner x = withPlaces(1);
+        RefusePlanner x = Check.withPlaces(1);
         x.addBin(1, 1, 100, 0);
         x.addBin(1, 2, 100, 0);
         x.addBin(1, 1, 101, 0);
@@ -87,7 +79,7 @@ public final class PlansAndToursTest {
     }
 
     private static void promise16NextWorkday() {
-        RefusePlanner x = withPlaces(1);
+        RefusePlanner x = Check.withPlaces(1);
         x.addBin(1, 0, 100, 0);
         x.pass(14);
         for (int day = 15; day <= 18; day++) {
@@ -101,7 +93,7 @@ public final class PlansAndToursTest {
     }
 
     private static void promise16LastDay() {
-        RefusePlanner x = withPlaces(1);
+        RefusePlanner x = Check.withPlaces(1);
         for (int i = 0; i < 6; i++) {
             x.pass(60);
         }
@@ -115,7 +107,7 @@ public final class PlansAndToursTest {
     }
 
     private static void promise17Planned() {
-        RefusePlanner x = withPlaces(4);
+        RefusePlanner x = Check.withPlaces(4);
         x.setMinutes(0, 1, 50);
         x.setMinutes(0, 2, 40);
         x.setMinutes(0, 3, 10);
@@ -147,7 +139,7 @@ public final class PlansAndToursTest {
     }
 
     private static void promise17Ties() {
-        RefusePlanner x = withPlaces(3);
+        RefusePlanner x = Check.withPlaces(3);
         x.addBin(1, 0, 20, 0);
         x.addBin(2, 0, 20, 0);
         x.addBin(3, 0, 20, 0);
@@ -228,7 +220,7 @@ public final class PlansAndToursTest {
     }
 
     private static void promise18EmptyBins() {
-        RefusePlanner x = withPlaces(1);
+        RefusePlanner x = Check.withPlaces(1);
         x.addBin(1, 2, 100, 50);
         x.addBin(1, 2, 100, 0);
         x.pass(15);
@@ -242,7 +234,7 @@ public final class PlansAndToursTest {
     }
 
     private static void promise18OneLitre() {
-        RefusePlanner x = withPlaces(1);
+        RefusePlanner x = Check.withPlaces(1);
         x.addBin(1, 0, 20, 0);
         x.addBin(1, 0, 100, 50);
         x.pass(14);
@@ -257,7 +249,7 @@ public final class PlansAndToursTest {
     }
 
     private static void promise18TipHere() {
-        RefusePlanner x = withPlaces(1);
+        RefusePlanner x = Check.withPlaces(1);
         x.setTip(1, 0, true);
         x.addBin(1, 0, 100, 50);
         x.addBin(1, 0, 100, 50);
@@ -267,7 +259,7 @@ public final class PlansAndToursTest {
     }
 
     private static void promise18PlanIsMadeFirst() {
-        RefusePlanner x = withPlaces(2);
+        RefusePlanner x = Check.withPlaces(2);
         x.setMinutes(1, 2, 1);
         x.addBin(1, 0, 20, 0);
         x.addBin(2, 0, 20, 0);
@@ -279,7 +271,7 @@ public final class PlansAndToursTest {
     }
 
     private static void promise19Fetch() {
-        RefusePlanner x = withPlaces(1);
+        RefusePlanner x = Check.withPlaces(1);
         x.setMinutes(0, 1, 12);
         x.addBin(1, 2, 1000, 200);
         check.due("fetch(0, 50), empty and not due", x.fetch(0, 50), 29);
@@ -331,7 +323,7 @@ public final class PlansAndToursTest {
     }
 
     private static void promise21Total() {
-        RefusePlanner x = withPlaces(1);
+        RefusePlanner x = Check.withPlaces(1);
         for (int kind = 0; kind < 3; kind++) {
             x.addBin(1, kind, 100, 10 + kind);
         }
@@ -352,7 +344,7 @@ public final class PlansAndToursTest {
     }
 
     private static void promise22Wasted() {
-        RefusePlanner x = withPlaces(1);
+        RefusePlanner x = Check.withPlaces(1);
         x.addBin(1, 0, 10, 6);
         x.addBin(1, 2, 10, 11);
         x.addBin(1, 2, 10, 12);
@@ -367,7 +359,7 @@ public final class PlansAndToursTest {
     }
 
     private static void promise23Error() {
-        RefusePlanner x = withPlaces(1);
+        RefusePlanner x = Check.withPlaces(1);
         check.due("error() without bins", x.error(), 0.0);
         x.addBin(1, 0, 100, 20);
         check.due("error() of a new bin", x.error(), 0.0);
@@ -380,7 +372,7 @@ public final class PlansAndToursTest {
     }
 
     private static void promise24Digest() {
-        RefusePlanner x = withPlaces(3);
+        RefusePlanner x = Check.withPlaces(3);
         x.setMinutes(0, 1, 11);
         x.setMinutes(0, 2, 12);
         x.setMinutes(3, 0, 13);
