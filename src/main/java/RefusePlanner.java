@@ -453,7 +453,7 @@ public final class RefusePlanner {
          * the same minutes it is shows nowhere, so the minutes are enough.
          */
         int overTip(int kind, int from, int to) {
-            int least = Integer.MAX_VALUE;
+            int least = 2 * MAX_MINUTES;
             for (int tip = 0; tip < places; tip++) {
                 if (hasTip(tip, kind)) {
                     least = Math.min(least, between(from, tip) + between(tip, to));
