@@ -453,6 +453,7 @@ public final class RefusePlanner {
          * the same minutes it is shows nowhere, so the minutes are enough.
          */
         int overTip(int kind, int from, int to) {
+            // There is always a tip, and no way over one is longer than two drives.
             int least = 2 * MAX_MINUTES;
             for (int tip = 0; tip < places; tip++) {
                 if (hasTip(tip, kind)) {

@@ -24,11 +24,11 @@ final class Check {
         return x;
     }
 
-    /** A new planner with all the places and bins that there can be: bin i is of kind i % 3. */
+    /** A new planner with all the places and bins that there can be: bin i is of kind i % 3, and fills. */
     static RefusePlanner full() {
         RefusePlanner x = withPlaces(9);
         for (int i = 0; i < 16; i++) {
-            x.addBin(1 + i % 9, i % 3, 100, 0);
+            x.addBin(1 + i % 9, i % 3, 100, 10);
         }
         return x;
     }

@@ -25,6 +25,7 @@ public final class TourEdgesTest {
         aFullLorryTakesAnEmptyBin();
         theTipIsTheOneForThereAndBack();
         theTipCanBeHere();
+        theTipCanBeAtTheLastOfTenPlaces();
         onlyATipForThisKind();
         anEmptyBinIsEmptiedAllTheSame();
         aContentThatIsJustTheCapacity();
@@ -169,6 +170,18 @@ public final class TourEdgesTest {
         x.setTip(1, 0, true);
         check.due("collect(0, 60), a tip here", x.collect(0, 60), 30 + 5 + 10 + 5 + 10 + 30);
         check.dueTotals(x, 0, 120, 2, 90, 1);
+    }
+
+    private static void theTipCanBeAtTheLastOfTenPlaces() {
+        RefusePlanner x = dueWith(100, 60, 60);
+        for (int place = 2; place <= 9; place++) {
+            x.addPlace();
+        }
+        x.setMinutes(1, 9, 3);
+        x.setMinutes(9, 0, 4);
+        check.due("wouldTake(0, 60), no tip but the depot's", x.wouldTake(0, 60), 30 + 5 + (30 + 10 + 30) + 5 + 10 + 30);
+        x.setTip(9, 0, true);
+        check.due("collect(0, 60), a tip at place 9", x.collect(0, 60), 30 + 5 + (3 + 10 + 3) + 5 + (3 + 10 + 4));
     }
 
     /** "it first drives to a tip for this kind". */
