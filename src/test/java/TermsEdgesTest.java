@@ -290,7 +290,7 @@ public final class TermsEdgesTest {
         y.fetch(0, 50);
         y.pass(1);
         y.fetch(0, 50);
-        // The highest rates there are: 1000 litres found on day 5 and, 50 litres less, on day 6.
+        // A high rate: 1000 litres found on day 5, 50 of them taken, and 1000 found again on day 6.
         check.due("bin(0, 3)", y.bin(0, 3), ((500 * 3 + 2000) / 4 * 3 + 10000) / 4);
         check.due("expected(0, 6)", y.expected(0, 6), 0);
         check.due("expected(0, 7)", y.expected(0, 7), 315);
